@@ -52,6 +52,22 @@ public final class PromiseTests {
         return w;
     }
 
+    private static WeekOrders rareSix() {
+        WeekOrders w = rareFour(0);
+        born(w, 4, "abcdefgh", 0);
+        born(w, 5, "abcde", 0);
+        return w;
+    }
+
+    /** Six orders of which no two ever fall on one day: on date d person p has day (d + p) mod 7. */
+    private static WeekOrders sixApart() {
+        WeekOrders w = new WeekOrders();
+        for (int person = 0; person < 6; person++) {
+            born(w, person, "abcdefgabcdef".substring(person, person + 7), 0);
+        }
+        return w;
+    }
+
     private static void promise1NewObject() {
         WeekOrders w = new WeekOrders();
         for (int what = 0; what <= 3; what++) {
@@ -301,6 +317,7 @@ public final class PromiseTests {
         w.exile(1);
         due("11 one of it went", w.meet(3, 0, 0), OUTSIDE);
         w = rareFour(0);
+        due("11 all six", rareSix().meet(63, 1, 0), 840);
         due("11 at once", w.meet(15, 0, 0), 0);
         due("11 839 later", w.meet(15, 1, 0), 840);
         due("11 839 later, beyond 9999", w.meet(15, 9241, 0), 10080);
@@ -334,12 +351,22 @@ public final class PromiseTests {
         due("13 second", w.never(1), 5);
         due("13 third", w.never(2), 35);
         due("13 no fourth", w.never(3), NONE);
-        for (int i : new int[] {-2, -6, MIN, MAX}) {
-            due("13 never(" + i + ")", w.never(i), NONE);
+        for (int bad : new int[] {-2, -6, MIN, MAX}) {
+            due("13 never(" + bad + ")", w.never(bad), NONE);
         }
         w.exile(3);
         due("13 one went", w.never(-1), 1);
         due("13 one went", w.never(0), 5);
+        w = sixApart();
+        due("13 all fifteen", w.never(-1), 15);
+        int i = 0;
+        for (int person = 0; person < 6; person++) {
+            for (int other = person + 1; other < 6; other++) {
+                due("13 never(" + i + ") of fifteen", w.never(i), 10 * person + other);
+                i++;
+            }
+        }
+        due("13 no sixteenth", w.never(15), NONE);
         due("13 once in 840 is not never", rareFour(0).never(-1), 0);
     }
 
@@ -374,6 +401,13 @@ public final class PromiseTests {
         born(w, 0, "abcde", 0);
         due("14 one row and no more", w.market(4, 1, 2), 4);
         due("14 first at the end of a row", w.market(4, 1, 1), 4);
+        for (int person = 1; person < 5; person++) {
+            born(w, person, "abcde", person);
+        }
+        due("14 on all dates", w.market(0, 1, 0), 840);
+        due("14 on all dates: no row", w.market(0, 1, 2), 0);
+        due("14 never two", w.market(0, 2, 2), 840);
+        due("14 six of six", rareSix().market(0, 6, 0), 1);
     }
 
     private static void promise15Can() {
@@ -441,6 +475,21 @@ public final class PromiseTests {
         plan(w, "a0;b01;a012;", 3);
         month(w, 5, 3, 14, 8, 7);
         month(w, 40, 3, 49, 43, 42);
+        earlyAheadOfMore();
+    }
+
+    /** The first work's three dates are the only dates of the three other works: one must fail. */
+    private static void earlyAheadOfMore() {
+        WeekOrders w = new WeekOrders();
+        born(w, 0, "abcdefgh", 0);
+        born(w, 1, "abcde", 3);
+        born(w, 2, "abcde", 1);
+        born(w, 3, "abcde", 4);
+        plan(w, "a0;a01;a02;a03;", 4);
+        month(w, 1, 3, 8, NONE, 16, 24);
+        plan(w, "a03;a02;a01;a0;", 4);
+        month(w, 1, 3, 24, 16, 8, NONE);
+        month(w, 0, 4, 24, 16, 8, 0);
     }
 
     private static void promise17Barred() {
@@ -485,6 +534,12 @@ public final class PromiseTests {
         w = rareFour(0);
         plan(w, "b0123;", 1);
         due("18 orders of 6 and 8", w.why(0), 13);
+        w = sixApart();
+        plan(w, "a01;a12;a45;a012345;", 4);
+        due("18 the first and the second", w.why(0), 1);
+        due("18 the second and the third", w.why(1), 12);
+        due("18 the last two", w.why(2), 45);
+        due("18 the first two of all", w.why(3), 1);
     }
 
     private static void promise19Common() {
@@ -514,6 +569,9 @@ public final class PromiseTests {
         born(w, 5, "abcdefg", 4);
         due("19 another's day is dearer", w.common(7, 4, 0), 2);
         due("19 another's day is dearer: when", w.common(7, 4, 1), 3);
+        due("19 five of six", sixApart().common(63, 0, 0), 5);
+        due("19 five of six: the least day", sixApart().common(63, 0, 1), 0);
+        due("19 from 6: five of six", sixApart().common(63, 1, 1), 1);
         for (int set : new int[] {0, 8, 9, 64, -1, MIN, MAX}) {
             due("19 set " + set, w.common(set, 0, 0), OUTSIDE);
         }
@@ -930,6 +988,38 @@ public final class PromiseTests {
         w.seen(0, 0);
         due("35 what comes then is not in the image", w.restore(1), 1);
         due("35 sights", w.told(3), 2);
+        allRestored();
+    }
+
+    /** Six people with eight days each, six works, six sights. */
+    private static void allRestored() {
+        WeekOrders w = new WeekOrders();
+        for (int person = 0; person < 6; person++) {
+            born(w, person, "abcdefghabcdefgh".substring(person, person + 8), 10 + person);
+            w.seen(person, person & 1);
+        }
+        plan(w, "a0;b1;c2;d3;e4;f5;", 6);
+        w.image(0);
+        for (int person = 0; person < 6; person++) {
+            born(w, person, "hgfed", 0);
+        }
+        plan(w, "h012345;h012345;h012345;h012345;h012345;h012345;", 6);
+        w.forget();
+        for (int i = 0; i < 6; i++) {
+            w.seen(0, 1);
+        }
+        w.restore(0);
+        for (int i = 0; i < 6; i++) {
+            due("35 all: birth", w.told(10 + i), 10 + i);
+            due("35 all: days", w.told(20 + i), 8);
+            for (int place = 0; place < 8; place++) {
+                due("35 all: order", w.told(100 * (1 + i) + place), (i + place) % 8);
+            }
+            due("35 all: day of a work", w.told(1000 * (1 + i)), i);
+            due("35 all: people of a work", w.told(1000 * (1 + i) + 1), 1 << i);
+        }
+        // Whose day comes every eighth date can't be it on dates 1, 3 and 5.
+        due("35 all: nobody fits", w.whose(-1), 0);
     }
 
     private static void promise36Told() {
