@@ -141,18 +141,7 @@ public final class WeekOrders {
     }
 
     public int never(int i) {
-        int found = 0;
-        for (int person = 0; person < PEOPLE; person++) {
-            for (int other = person + 1; other < PEOPLE; other++) {
-                if (areTwoThere(person, other) && !land.folk.everShare(person, other)) {
-                    if (found == i) {
-                        return 10 * person + other;
-                    }
-                    found++;
-                }
-            }
-        }
-        return i == -1 ? found : NONE;
+        return pairs(false, i);
     }
 
     public int market(int day, int m, int what) {
@@ -357,18 +346,7 @@ public final class WeekOrders {
     }
 
     public int twins(int i) {
-        int found = 0;
-        for (int person = 0; person < PEOPLE; person++) {
-            for (int other = person + 1; other < PEOPLE; other++) {
-                if (areTwoThere(person, other) && land.folk.areTwins(person, other)) {
-                    if (found == i) {
-                        return 10 * person + other;
-                    }
-                    found++;
-                }
-            }
-        }
-        return i == -1 ? found : NONE;
+        return pairs(true, i);
     }
 
     public int oneOrder(int person, int what) {
@@ -543,6 +521,29 @@ public final class WeekOrders {
             return OUTSIDE;
         }
         return part == 0 ? land.plan.dayOf(work) : land.plan.peopleOf(work);
+    }
+
+    /** Twins, or those who never share a day: how many (i is -1), or the i-th. */
+    private int pairs(boolean ofTwins, int i) {
+        int found = 0;
+        for (int person = 0; person < PEOPLE; person++) {
+            for (int other = person + 1; other < PEOPLE; other++) {
+                if (isPair(ofTwins, person, other)) {
+                    if (found == i) {
+                        return 10 * person + other;
+                    }
+                    found++;
+                }
+            }
+        }
+        return i == -1 ? found : NONE;
+    }
+
+    private boolean isPair(boolean ofTwins, int person, int other) {
+        if (!areTwoThere(person, other)) {
+            return false;
+        }
+        return ofTwins ? land.folk.areTwins(person, other) : !land.folk.everShare(person, other);
     }
 
     // ---- what a call may name
