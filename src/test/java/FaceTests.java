@@ -82,6 +82,30 @@ public final class FaceTests {
         hold("the constants are the document's: " + found, found.equals(new TreeSet<>(java.util.Arrays.asList(CONSTANTS))));
     }
 
+    /** What rules 5 and 11 allow of a class: static fields that are constants, parameters, fields, classes. */
+    private static void bounds(Class<?> type) {
+        hold("at most twelve classes", type.getDeclaredClasses().length + 1 <= 12);
+        boundsOfOne(type);
+        for (Class<?> inner : type.getDeclaredClasses()) {
+            boundsOfOne(inner);
+        }
+    }
+
+    private static void boundsOfOne(Class<?> type) {
+        int fields = 0;
+        for (Field field : type.getDeclaredFields()) {
+            boolean isConstant = Modifier.isStatic(field.getModifiers());
+            fields += isConstant ? 0 : 1;
+            hold(field + " is a number or a text, if static", !isConstant || field.getType() == int.class
+                || field.getType() == long.class || field.getType() == String.class);
+            hold(field + " is final, if static", !isConstant || Modifier.isFinal(field.getModifiers()));
+        }
+        hold(type + " has at most twenty fields", fields <= 20);
+        for (Method method : type.getDeclaredMethods()) {
+            hold(method + " has at most seven parameters", method.getParameterCount() <= 7);
+        }
+    }
+
     private static void words(String source) {
         String[] unwanted = {
             "\\bimport\\b", "\\bpackage\\b", "->", "::", "\\bfinally\\b", "\\bsynchronized\\b",
@@ -122,6 +146,7 @@ public final class FaceTests {
             && Modifier.isPublic(constructors[0].getModifiers()) && constructors[0].getParameterCount() == 0);
         members(type);
         constants(type);
+        bounds(type);
         String source = Files.readString(SOURCE, StandardCharsets.UTF_8);
         words(source);
         lengths(source);

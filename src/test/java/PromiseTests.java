@@ -1022,26 +1022,22 @@ public final class PromiseTests {
         due("35 all: nobody fits", w.whose(-1), 0);
     }
 
-    private static void promise36Told() {
+    private static WeekOrders landToTell() {
         WeekOrders w = new WeekOrders();
         born(w, 2, "abcde", 7);
         born(w, 5, "hgfedcba", 99);
         plan(w, "a2;h25;", 2);
         w.seen(3, 1);
         say(w, "xy");
+        return w;
+    }
+
+    private static void promise36Told() {
+        WeekOrders w = landToTell();
         int[] whats = {0, 1, 2, 3, 12, 15, 22, 25, 300, 304, 600, 607, 1000, 1001, 2000, 2001};
         int[] due = {2, 36, 2, 1, 7, 99, 5, 8, 0, 4, 7, 0, 0, 4, 7, 36};
         for (int i = 0; i < whats.length; i++) {
             due("36 told(" + whats[i] + ")", w.told(whats[i]), due[i]);
-        }
-        for (int what = -2500; what < 10000; what++) {
-            boolean answered = false;
-            for (int known : whats) {
-                answered |= known == what || what > 300 && what < 304 || what > 600 && what < 607;
-            }
-            if (!answered) {
-                due("36 told(" + what + ")", w.told(what), OUTSIDE);
-            }
         }
         for (int what : new int[] {MIN, MIN + 9, MIN + 22, MAX, MAX - 20}) {
             due("36 told(" + what + ")", w.told(what), OUTSIDE);
@@ -1050,6 +1046,24 @@ public final class PromiseTests {
         due("36 one went: birth", w.told(12), OUTSIDE);
         due("36 one went: days", w.told(22), OUTSIDE);
         due("36 one went: order", w.told(300), OUTSIDE);
+        allOtherNumbers(whats);
+    }
+
+    private static void allOtherNumbers(int[] whats) {
+        WeekOrders w = landToTell();
+        for (int what = -2500; what < 10000; what++) {
+            // An object is used for 512 calls at most.
+            if (what % 400 == 0) {
+                w = landToTell();
+            }
+            boolean answered = what > 300 && what < 304 || what > 600 && what < 607;
+            for (int known : whats) {
+                answered |= known == what;
+            }
+            if (!answered) {
+                due("36 told(" + what + ")", w.told(what), OUTSIDE);
+            }
+        }
     }
 
     private static void constants() {
