@@ -8,7 +8,7 @@ import java.util.function.ToLongFunction;
 import java.util.stream.IntStream;
 
 /**
- * What the tests of the bounds share. A test is a method whose name begins with its promise
+ * What the tests of the bounds and of the changes share. A test is a method whose name begins with its promise
  * (promise05_...) and goes on with its case; all of them are run in the order of their names.
  */
 final class Bench {
@@ -48,14 +48,41 @@ final class Bench {
 
     /** The call is refused with this answer, and changes nothing of the land. */
     static void refused(String call, Supplier<WeekOrders> land, ToLongFunction<WeekOrders> asked, long want) {
+        makes(call, land, asked, want, land);
+    }
+
+    /** The call answers this, and makes of a land just what another one is. */
+    static void makes(
+            String call, Supplier<WeekOrders> land, ToLongFunction<WeekOrders> asked, long want,
+            Supplier<WeekOrders> other) {
         WeekOrders w = land.get();
         due(call, asked.applyAsLong(w), want);
+        same(call, trace(w), trace(other.get()));
+    }
+
+    private static void same(String call, String got, String want) {
         checks++;
-        String before = trace(land.get());
-        String after = trace(w);
-        if (!after.equals(before)) {
-            fail(call + " was refused, but made " + after + " of " + before);
+        if (!got.equals(want)) {
+            fail(call + " made " + got + ", due is " + want);
         }
+    }
+
+    /** A question in several forms, counted from 0 on. */
+    interface Question {
+        long ask(WeekOrders w, int form);
+    }
+
+    /** The question, asked twice in each form, answers the same and changes nothing of the land. */
+    static void asked(String question, Supplier<WeekOrders> land, int forms, Question asked) {
+        WeekOrders w = land.get();
+        long[] answers = new long[forms];
+        for (int form = 0; form < forms; form++) {
+            answers[form] = asked.ask(w, form);
+        }
+        for (int form = 0; form < forms; form++) {
+            due(question + " again, form " + form, asked.ask(w, form), answers[form]);
+        }
+        same(question, trace(w), trace(land.get()));
     }
 
     static void refused(String call, ToLongFunction<WeekOrders> asked, long want) {
